@@ -274,7 +274,7 @@ public final class HornMaze {
     }
     int stand = standOf(set);
     for (int i = 0; i < n; i++) {
-      stand = standBehind(1, stand, maze.called[i]);
+      stand = hearAt(1, stand, maze.called[i]);
       if (stand == NONE) {
         return NONE;
       }
@@ -677,7 +677,7 @@ public final class HornMaze {
     return set * DOOR_BITS + maze.doors;
   }
 
-  private int standBehind(int mix, int stand, int word) {
+  private int hearAt(int mix, int stand, int word) {
     moves.makeReady(mix, stand % DOOR_BITS, 1 << word);
     return moves.standBehind(mix, stand, word);
   }
@@ -688,7 +688,7 @@ public final class HornMaze {
     }
     int stand = from;
     for (int i = 0; i < n && stand != NONE; i++) {
-      stand = standBehind(mix, stand, maze.called[i]);
+      stand = hearAt(mix, stand, maze.called[i]);
     }
     return stand;
   }
@@ -739,7 +739,7 @@ public final class HornMaze {
   private int soonestPair(int stand) {
     int set = stand / DOOR_BITS;
     int soonest = NONE;
-    int least = Integer.MAX_VALUE;
+    int least = ALL_STANDS;
     for (int one = 0; one < maze.places; one++) {
       for (int other = one + 1; other < maze.places; other++) {
         int two = (1 << one) | (1 << other);
@@ -863,7 +863,7 @@ public final class HornMaze {
       for (int i = 0; i < MOST_LAWS; i++) {
         laws[i] = other.laws[i];
       }
-      store.copyFrom(other.store);
+      store.copyStore(other.store);
     }
   }
 
@@ -963,7 +963,7 @@ public final class HornMaze {
 
     int nearest(int set) {
       int best = NONE;
-      int least = Integer.MAX_VALUE;
+      int least = ALL_STANDS;
       for (int i = 0; i < size; i++) {
         int bits = Integer.bitCount(sets[i] ^ set);
         if (bits < least) {
@@ -974,7 +974,7 @@ public final class HornMaze {
       return best;
     }
 
-    void copyFrom(Store other) {
+    void copyStore(Store other) {
       size = other.size;
       total = other.total;
       System.arraycopy(other.sets, 0, sets, 0, MOST_HELD);
@@ -1019,7 +1019,7 @@ public final class HornMaze {
 
     // A clause: whether it leads, where its sum begins, where its test begins, where it ends.
     static final int CLAUSE_SIZE = 4;
-    static final long BROKEN = Long.MIN_VALUE;
+    static final long BROKEN = -2000000000L;
 
     private static final long FARTHEST = 1000000000;
 
@@ -1069,19 +1069,19 @@ public final class HornMaze {
         }
         long left = used == 2 ? stack[high - 2] : 0;
         long right = used >= 1 ? stack[high - 1] : 0;
-        long result = right;
+        long result;
         switch (op) {
-          case NUMBER -> result = told;
-          case FACT -> result = told < facts.length ? facts[told] : BROKEN;
-          case ADD -> result = left + right;
-          case TAKE -> result = left - right;
-          case TIMES -> result = left * right;
-          case PART_BY -> result = right == 0 ? BROKEN : left / right;
-          case LESS -> result = left < right ? 1 : 0;
-          case MORE -> result = left > right ? 1 : 0;
-          case SAME -> result = left == right ? 1 : 0;
-          case NOT -> result = 1 - right;
-          default -> result = right;
+          case NUMBER: result = told; break;
+          case FACT: result = told < facts.length ? facts[told] : BROKEN; break;
+          case ADD: result = left + right; break;
+          case TAKE: result = left - right; break;
+          case TIMES: result = left * right; break;
+          case PART_BY: result = right == 0 ? BROKEN : left / right; break;
+          case LESS: result = left < right ? 1 : 0; break;
+          case MORE: result = left > right ? 1 : 0; break;
+          case SAME: result = left == right ? 1 : 0; break;
+          case NOT: result = 1 - right; break;
+          default: result = right; break;
         }
         if (result > FARTHEST || result < -FARTHEST) {
           return BROKEN;
