@@ -40,6 +40,8 @@ public final class ModelTest {
   private final HornMaze maze = new HornMaze();
   private final Model model = new Model();
   private final List<String> calls = new ArrayList<>();
+  private String lastAsked = "status";
+  private int[] lastArgs = {};
   private static final Map<String, Method> METHODS = new HashMap<>();
   private static final Map<String, Map<Integer, Integer>> ANSWERS = new java.util.TreeMap<>();
 
@@ -148,8 +150,12 @@ public final class ModelTest {
       args[i] = argument(signs.charAt(i), args, i);
     }
     make(name, args);
-    if (name.equals("spell")) {
-      make("fewest", args[0], args[1], args[2]);
+    if (choices == ASKED) {
+      lastAsked = name;
+      lastArgs = args;
+    } else if (choices == CHANGED && random.nextBoolean()) {
+      // What was found must not outlive the change.
+      make(lastAsked, lastArgs);
     }
   }
 

@@ -246,6 +246,12 @@ public final class PromisesMazeTest {
     fault(" Leads 1", 1);
     fault("lead 1", 0);
     fault("leadsx 1", 0);
+    fault("leadsz 1", 0);
+    fault("barreda", 0);
+    fault("barred{", 6);
+    fault("barred`", 6);
+    fault("leads 1/", 8);
+    fault("leads 1:", 7);
     fault("barreds", 0);
     fault("barred barred", 7);
     fault("barred;", 7);

@@ -331,6 +331,21 @@ public final class PromisesStoreTest {
     Checks.due(49, "an image is kept anew", x.doors(3) + x.image(0) + x.doors(0) + x.back(0) + x.count(13), 6);
   }
 
+  private static void promise50Laws() {
+    HornMaze x = Checks.maze(4, 1);
+    x.image(0);
+    Checks.enforce(x, "leads 1");
+    Checks.enforce(x, "leads 2");
+    x.image(1);
+    x.back(0);
+    Checks.enforce(x, "leads 3");
+    Checks.due(50, "another law 0", x.goes(0, 0, 0, 0), 3);
+    x.back(1);
+    Checks.due(50, "law 1 of image 1", x.goes(0, 0, 0, 0), 2);
+    x.force(0);
+    Checks.due(50, "law 0 of image 1", x.goes(0, 0, 0, 0), 1);
+  }
+
   private static void promise51() {
     HornMaze x = Checks.maze(2, 1);
     x.word(8, 0);
@@ -409,6 +424,7 @@ public final class PromisesStoreTest {
     promise47Barred();
     promises49And50();
     promise50Kept();
+    promise50Laws();
     promise51();
     promise52();
     Checks.end();

@@ -50,6 +50,10 @@ public final class PromisesWordsTest {
     Checks.due(19, "kind 0", x.after(1, 33, 1), 3);
     Checks.due(19, "kind 1", x.after(2, 33, 1), 33);
     Checks.due(19, "all of both", x.after(3, 4095, 1), 4095);
+    for (int mix = 1; mix <= 3; mix++) {
+      Checks.due(19, "an empty set without places", new HornMaze().after(mix, 0, 0), 0);
+      Checks.due(19, "a set without places", new HornMaze().after(mix, 1, 0), NONE);
+    }
     x.place(0);
     Checks.due(19, "a mix 3 with 7 places", x.after(3, 1, 1), NONE);
     Checks.due(19, "a seventh place", x.after(1, 64, 1), 64);
@@ -276,6 +280,7 @@ public final class PromisesWordsTest {
     Checks.due(28, "of one", x.stands(1, 1), 4);
     Checks.due(28, "of all", x.stands(1, 15), 15);
     Checks.due(28, "of none", x.stands(1, 0), 1);
+    Checks.due(28, "of all again", x.stands(1, 15), 15);
     x.word(7, 0);
     Checks.due(28, "with doors that stay open", x.stands(1, 15), 30);
     Checks.due(28, "of none with doors", x.stands(2, 0), 2);
