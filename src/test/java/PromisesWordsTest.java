@@ -373,6 +373,23 @@ public final class PromisesWordsTest {
     Checks.due(32, "12 times the lower and the other", v.bar(0), 11);
   }
 
+  /** Nearly all pairs are led to one pair by nearly all words. */
+  private static void promise31Many() {
+    HornMaze x = Checks.maze(12, 8);
+    for (int word = 0; word < 7; word++) {
+      Checks.leads(x, word, 0, 1, 0, 1, 0, 1, 0, 1, 0, 1, 0, 1);
+    }
+    x.lead(7, 1, 0);
+    Checks.due(31, "all by one pair", x.farthest(0), 2);
+    Checks.due(29, "one of these", x.pair(0, 2, 5), 2);
+    Checks.due(29, "the last of these", x.pair(0, 10, 11), 2);
+    Checks.due(30, "the lowest word", x.which(0, 2, 5), 0);
+    Checks.due(30, "the pair itself", x.which(0, 0, 1), 7);
+    Checks.due(33, "0 and 1 ahead, then 0 and 2, then 0 and 1 again", x.plod(0, 4095), 3);
+    Checks.due(34, "all look alike", x.sight(4095), 2);
+    Checks.due(32, "none", x.bar(0), NONE);
+  }
+
   private static void promise33() {
     HornMaze x = Checks.cerny(4);
     Checks.due(33, "plod(0, 15)", x.plod(0, 15), 10);
@@ -474,6 +491,7 @@ public final class PromisesWordsTest {
     promises29And30();
     promises29And30Doors();
     promises31And32();
+    promise31Many();
     promise33();
     promise33Doors();
     promises34And35();
