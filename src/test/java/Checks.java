@@ -17,6 +17,11 @@ final class Checks {
     }
   }
 
+  static void wrong(int promise, String what) {
+    wrong++;
+    System.out.println("promise " + promise + ": " + what);
+  }
+
   /** A call that is refused: what it answers, what status tells, and that one refusal is counted. */
   static void refused(int promise, String what, HornMaze maze, java.util.function.IntSupplier call, int why) {
     int[] reasons = {-1, -2, -3, -5, -6};
@@ -73,6 +78,11 @@ final class Checks {
       maze.word(0, 0);
     }
     return maze;
+  }
+
+  /** One place, one word, and nothing else. */
+  static HornMaze lone() {
+    return maze(1, 1);
   }
 
   static void leads(HornMaze maze, int word, int... to) {
