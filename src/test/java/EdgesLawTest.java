@@ -120,6 +120,13 @@ public final class EdgesLawTest {
     Checks.due(12, "one PART too many", Checks.law(x, "leads " + fortyNine + "1+1"), -6);
     Checks.due(12, "each TEXT has its own PARTS", Checks.law(x, "leads " + fortyNine + "1"), 0);
     Checks.due(12, "and so the next", Checks.law(x, "leads " + fortyNine + "1"), 1);
+    HornMaze y = Checks.maze(3, 1);
+    y.image(0);
+    for (int i = 0; i < 14; i++) {
+      y.back(0);
+      Checks.enforce(y, "leads " + "1-1+".repeat(22) + "2 if 1 = 1 or 2 = 2");
+      Checks.due(15, "a long law, read for the " + i + "th time", y.goes(0, 0, 0, 0), 2);
+    }
   }
 
   private static String within(String open, String inner, String close, int times) {

@@ -65,7 +65,11 @@ public final class EdgesStoreTest {
     Checks.due(43, "between(0, 4095)", y.between(0, 4095), 200);
     Checks.due(41, "about(4095, 0)", y.about(4095, 0), 200);
     Checks.due(41, "about(0, 1)", y.about(0, 1), 200);
+    Checks.due(38, "held(4095), behind all", y.held(4095), 0);
+    Checks.due(37, "drop(4095), behind all", y.drop(4095), -3);
+    Checks.due(41, "about(4095, 2), behind all", y.about(4095, 2), NONE);
     Checks.due(37, "drop the last", y.drop(4088), 0);
+    Checks.due(38, "held(4088) then", y.held(4088), 0);
     Checks.due(39, "the last then", y.kth(198), 4095 - 14);
     Checks.due(39, "behind it", y.kth(199), NONE);
     Checks.due(36, "a first-but-one", y.hold(1), 1);

@@ -402,6 +402,8 @@ public final class EdgesWordsTest {
       x.word(0, 0);
       Checks.enforce(x, "leads 0 if word = 6 and north + 2 * east + 4 * west = " + aim);
       for (int doors = 0; doors < 8; doors++) {
+        // What was found must not help with what is asked next.
+        x.paint(0, 0);
         x.doors(doors);
         String name = "from doors " + doors + " to " + aim;
         int due = Integer.bitCount(doors ^ aim) + 1;
@@ -413,6 +415,26 @@ public final class EdgesWordsTest {
         Checks.due(28, name + ": stands", x.stands(1, 3), 16);
         Checks.due(24, name + ": without", x.without(1, 3, 6), NONE);
       }
+    }
+  }
+
+  /** Each door can be opened only behind the one ahead of it. */
+  private static void doorBehindDoor() {
+    HornMaze x = Checks.maze(2, 0);
+    x.word(1, 0);
+    x.word(2, 0);
+    x.word(4, 0);
+    x.word(0, 0);
+    Checks.enforce(x, "barred if word = 1 and north = 0; barred if word = 2 and east = 0; "
+        + "leads 0 if word = 3 and north + east + west = 3");
+    int[] due = {4, 3, 3, 2, 3, 2, 2, 1};
+    for (int doors = 0; doors < 8; doors++) {
+      x.paint(0, 0);
+      x.doors(doors);
+      Checks.due(29, "pair from doors " + doors, x.pair(0, 0, 1), due[doors]);
+      Checks.due(34, "sight from doors " + doors, x.sight(3), due[doors]);
+      Checks.due(21, "fewest from doors " + doors, x.fewest(1, 3, 0), due[doors]);
+      Checks.due(22, "ways from doors " + doors, x.ways(1, 3, 0), doors == 2 ? 2 : 1);
     }
   }
 
@@ -598,6 +620,7 @@ public final class EdgesWordsTest {
     traces();
     allStands();
     allDoors();
+    doorBehindDoor();
     mixAfterMix();
     pairs();
     whichWord();
