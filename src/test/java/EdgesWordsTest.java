@@ -586,6 +586,10 @@ public final class EdgesWordsTest {
     Checks.due(34, "of four colours, a word must be said", x.sight(15), 1);
     Checks.due(35, "the lowest of all words", x.ask(15), 0);
     Checks.due(34, "of five", x.sight(31), NONE);
+    for (int colour = 0; colour < 4; colour++) {
+      Checks.due(34, "two of colour " + colour, x.sight(17 << colour), NONE);
+      Checks.due(34, "two of colour " + colour + ", and others", x.sight(17 << colour | 15), NONE);
+    }
     Checks.due(34, "one place", x.sight(2048), 0);
     Checks.due(35, "one place", x.ask(2048), NONE);
     x.lead(7, 4, 5);
@@ -605,6 +609,65 @@ public final class EdgesWordsTest {
     Checks.due(34, "of kind 0", x.sight(17), 1);
     x.hear(0, 7, 6);
     Checks.due(34, "of kind 0, which hears it otherwise", x.sight(17), NONE);
+  }
+
+  /** A lower word behind which it can never be is not the one that is told. */
+  private static void neverBehindLower() {
+    HornMaze x = Checks.maze(4, 2);
+    Checks.leads(x, 0, 2, 3, 2, 3);
+    Checks.leads(x, 1, 0, 0, 2, 3);
+    Checks.due(29, "behind word 0 never", x.pair(0, 2, 3), NONE);
+    Checks.due(30, "word 1 alone", x.which(0, 0, 1), 1);
+    Checks.due(23, "word 1 alone", x.spell(1, 3, NONE, 0), 1);
+    Checks.due(34, "by word 1", x.sight(3), 1);
+    Checks.due(35, "word 1 alone", x.ask(3), 1);
+    Checks.due(34, "behind word 0 never", x.sight(12), NONE);
+  }
+
+  /** Six places, words that lead here and there, a door; of each second one many sets never meet. */
+  private static HornMaze drawnMaze(int number) {
+    HornMaze x = Checks.maze(6, 0);
+    int drawn = number * 7919 + 1;
+    for (int word = 0; word < 3; word++) {
+      x.word(word == 2 ? 1 : 0, word == 1 ? 1 : 0);
+      for (int place = 0; place < 6; place++) {
+        drawn = drawn * 1103 % 10007 + 13;
+        boolean stays = number % 2 == 1 && drawn / 36 % 3 > 0;
+        x.lead(word, place, word == 0 && number % 2 == 0 ? (place + 1) % 6 : stays ? place : drawn % 6);
+        x.paint(place, drawn / 6 % 6 == 0 ? 1 : 0);
+      }
+    }
+    Checks.enforce(x, "leads 0 if north = 1 and word = 0 and place = 3");
+    return x;
+  }
+
+  /** What is asked behind much else is answered as it is by a new object. */
+  private static void setAfterSet() {
+    for (int number = 0; number < 12; number++) {
+      HornMaze x = drawnMaze(number);
+      for (int i = 0; i < 64; i++) {
+        int set = i * 37 % 64;
+        int one = i % 6;
+        int other = i / 6 % 6;
+        int doors = i / 4 % 2;
+        String name = "maze " + number + ", set " + set + ": ";
+        HornMaze y = drawnMaze(number);
+        x.doors(doors);
+        y.doors(doors);
+        Checks.due(34, name + "sight", x.sight(set), y.sight(set));
+        Checks.due(30, "maze " + number + ", which " + one + " " + other, x.which(i % 2, one, other),
+            drawnWhich(number, doors, i % 2, one, other));
+        Checks.due(33, name + "plod", x.plod(i % 2, set), y.plod(i % 2, set));
+        Checks.due(35, name + "ask", x.ask(set), y.ask(set));
+        Checks.due(28, name + "stands", x.stands(1 + i % 3, set), y.stands(1 + i % 3, set));
+      }
+    }
+  }
+
+  private static int drawnWhich(int number, int doors, int kind, int one, int other) {
+    HornMaze x = drawnMaze(number);
+    x.doors(doors);
+    return x.which(kind, one, other);
   }
 
   public static void main(String[] args) {
@@ -627,6 +690,8 @@ public final class EdgesWordsTest {
     bars();
     plods();
     sights();
+    neverBehindLower();
+    setAfterSet();
     Checks.end();
   }
 }
